@@ -29,6 +29,7 @@ public final class CheeseEar {
 
     private static final int[] DIGEST_WARM_NIGHTS = {0, 9, 19, 29};
     private static final int[] DIGEST_AT_NIGHTS = {0, 5, 12, 29};
+    private static final int DIGEST_NIGHT = 12;
 
     private final Cellar cellar;
     private final Survey survey;
@@ -181,9 +182,7 @@ public final class CheeseEar {
         if (!cellar.has(wheel)) {
             return BAD;
         }
-        Trial trial = cellar.begin(wheel);
-        trial.run();
-        return Integer.bitCount(trial.heardNights);
+        return cellar.begin(wheel).heardLong();
     }
 
     public int scream(int what) {
@@ -198,6 +197,7 @@ public final class CheeseEar {
         if (letter < 0 || letter >= LETTERS || what < 0 || what > 1) {
             return BAD;
         }
+        survey.tallyLetters();
         survey.findChord(letter);
         return what == 0 ? survey.chordNight : survey.chordNumber;
     }
@@ -266,7 +266,10 @@ public final class CheeseEar {
     }
 
     public int ask(int wheel) {
-        return cellar.has(wheel) ? clues.nextNight(wheel, clues.fromNights(wheel)) : BAD;
+        if (!cellar.has(wheel)) {
+            return BAD;
+        }
+        return clues.nextNight(wheel, clues.fromNights(wheel));
     }
 
     public long frost(int c, int last, int wheel, int night, int what) {
@@ -396,51 +399,69 @@ public final class CheeseEar {
             h = 31 * h + warm(DIGEST_WARM_NIGHTS[i]);
         }
         for (int w = 0; w < cellar.wheels.number; w++) {
-            h = mixPlans(mixNights(h, w), w);
+            h = mixNights(h, w);
+            h = mixPlans(h, w);
+            h = mixClues(h, w);
         }
         return mixAll(h);
     }
 
+    // These take each finding's numbers together: the public calls would search anew for every one.
+
     private long mixNights(long before, int w) {
         long h = before;
-        for (int what = 0; what <= 7; what++) {
+        for (int what = 0; what <= 2 + MOST_SOUNDS; what++) {
             h = 31 * h + wheel(w, what);
         }
+        Trial trial = cellar.begin(w);
+        trial.run();
         for (int i = 0; i < DIGEST_AT_NIGHTS.length; i++) {
-            for (int what = 0; what <= 2; what++) {
-                h = 31 * h + at(DIGEST_AT_NIGHTS[i], w, what);
-            }
+            int night = DIGEST_AT_NIGHTS[i];
+            h = 31 * h + trial.ageOn(night);
+            h = 31 * h + trial.heardOn(night);
+            h = 31 * h + trial.stateOn(night);
         }
-        return h;
+        return 31 * h + trial.heardLong();
     }
 
     private long mixPlans(long before, int w) {
-        long h = 31 * before + longs(w);
-        h = 31 * h + ripe(w, 12, NONE);
-        h = 31 * h + ripe(w, 12, 0);
-        h = 31 * h + cold(w, 0);
-        h = 31 * h + cold(w, 1);
-        h = 31 * h + come(w, 0);
-        h = 31 * h + come(w, 1);
-        h = 31 * h + was(w, 0);
-        h = 31 * h + was(w, 1);
-        h = 31 * h + ask(w);
-        h = 31 * h + frost(5, 5, w, 12, 0);
-        return 31 * h + frost(5, 5, w, 12, 1);
+        plans.findRipe(w, DIGEST_NIGHT);
+        plans.findCold(w);
+        plans.findCome(w);
+        long h = 31 * before + plans.ripeNumber;
+        h = 31 * h + plans.ripeFirst;
+        h = 31 * h + plans.coldNight;
+        h = 31 * h + plans.coldNumber;
+        h = 31 * h + plans.comeNight;
+        return 31 * h + plans.comeMoment;
+    }
+
+    private long mixClues(long before, int w) {
+        int comings = clues.fromNights(w);
+        long h = 31 * before + comings;
+        h = 31 * h + clues.fittingSorts(w);
+        h = 31 * h + clues.nextNight(w, comings);
+        chances.findFrost(5, 5, w, DIGEST_NIGHT);
+        h = 31 * h + chances.above;
+        return 31 * h + chances.below;
     }
 
     private long mixAll(long before) {
-        long h = 31 * before + scream(0);
-        h = 31 * h + scream(1);
+        survey.findScream();
+        long h = 31 * before + survey.screamNight;
+        h = 31 * h + survey.screamWheel;
+        survey.tallyLetters();
         for (int letter = 0; letter < LETTERS; letter++) {
-            h = 31 * h + chord(letter, 0);
-            h = 31 * h + chord(letter, 1);
+            survey.findChord(letter);
+            h = 31 * h + survey.chordNight;
+            h = 31 * h + survey.chordNumber;
         }
-        h = 31 * h + hush();
-        h = 31 * h + sale();
-        h = 31 * h + never();
-        h = 31 * h + summer(7, 20, 0);
-        return 31 * h + summer(7, 20, 1);
+        h = 31 * h + survey.silentNights();
+        h = 31 * h + plans.bestSale();
+        h = 31 * h + clues.neverTurnings();
+        chances.findSummer(7, 20);
+        h = 31 * h + chances.nightsTogether;
+        return 31 * h + chances.wheelsEaten;
     }
 
     private static boolean isText(int text) {
@@ -520,7 +541,8 @@ public final class CheeseEar {
 
     /** The wheels as their text tells them. */
     private static final class Wheels {
-        private static final int AT_SORT = 0, AT_TENS = 1, AT_UNITS = 2, AT_LETTERS = 3;
+        // from AT_LETTERS on the stage also counts the letters that there are
+        private static final int AT_SORT = 0, AT_TENS = 1, AT_LETTERS = 3;
 
         final int[] sorts = new int[MOST_WHEELS];
         final int[] nights = new int[MOST_WHEELS];
@@ -551,20 +573,10 @@ public final class CheeseEar {
             if (stage == AT_SORT) {
                 return takesSort(b == 'h' ? HARD : b == 's' ? SOFT : b == 'b' ? BLUE : NONE);
             }
-            int w = number - 1;
-            if (w < 0 || w >= MOST_WHEELS) {
-                return false;
+            if (stage < AT_LETTERS) {
+                return takesFigure(number - 1, b - '0');
             }
-            if (stage == AT_LETTERS) {
-                return b == ';' ? takesNext() : takesLetter(w, b - 'a');
-            }
-            int figure = b - '0';
-            if (figure < 0 || figure > (stage == AT_TENS ? 1 : 9)) {
-                return false;
-            }
-            nights[w] = 10 * nights[w] + figure;
-            stage++;
-            return true;
+            return b == ';' ? takesNext() : takesLetter(number - 1, b - 'a');
         }
 
         private boolean takesSort(int sort) {
@@ -579,25 +591,40 @@ public final class CheeseEar {
             return true;
         }
 
+        private boolean takesFigure(int w, int figure) {
+            if (figure < 0 || figure > (stage == AT_TENS ? 1 : 9) || w < 0 || w >= nights.length) {
+                return false;
+            }
+            nights[w] = 10 * nights[w] + figure;
+            stage++;
+            return true;
+        }
+
         private boolean takesLetter(int w, int letter) {
-            int place = w * MOST_SOUNDS + sizes[w];
-            boolean fits = sizes[w] < MOST_SOUNDS && place >= 0 && place < letters.length;
-            if (!fits || letter < 0 || letter >= LETTERS) {
+            int sound = stage - AT_LETTERS;
+            int place = w * MOST_SOUNDS + sound;
+            if (letter < 0 || letter >= LETTERS || sound < 0 || sound >= MOST_SOUNDS) {
+                return false;
+            }
+            if (w < 0 || w >= sizes.length || place >= letters.length) {
                 return false;
             }
             letters[place] = letter;
-            sizes[w]++;
+            sizes[w] = sound + 1;
+            stage++;
             return true;
         }
 
         private boolean takesNext() {
             boolean ended = mayEnd();
-            stage = ended ? AT_SORT : stage;
+            if (ended) {
+                stage = AT_SORT;
+            }
             return ended;
         }
 
         private boolean mayEnd() {
-            return stage == AT_LETTERS && sizeOf(number - 1) > 0;
+            return stage > AT_LETTERS;
         }
 
         int sortOf(int w) {
@@ -718,10 +745,6 @@ public final class CheeseEar {
         }
 
         Trial begin(int wheel) {
-            return beginWithout(wheel, NONE);
-        }
-
-        Trial beginWithout(int wheel, int turning) {
             trial.sort = wheels.sortOf(wheel);
             trial.from = wheels.nightOf(wheel);
             trial.size = wheels.sizeOf(wheel);
@@ -729,10 +752,8 @@ public final class CheeseEar {
                 int letter = wheels.letterOf(wheel, sound);
                 trial.learn(sound, letter, letter >= shrill);
             }
-            for (int night = 0; night < NIGHTS; night++) {
-                trial.warmTo(night, cave.warmthOn(night));
-            }
-            trial.turned = turnings.nightsOf(wheel, turning);
+            System.arraycopy(cave.warmth, 0, trial.warmth, 0, NIGHTS);
+            trial.turned = turnings.nightsOf(wheel, NONE);
             trial.knocked = knocks.nightsOf(wheel, NONE);
             trial.time = time;
             return trial;
@@ -839,18 +860,37 @@ public final class CheeseEar {
             }
         }
 
-        /** The moment that is heard on one night, NONE if nothing is: searches need no whole run. */
+        // Searches need no whole run; and an age never becomes less, so what is over stays over.
+
+        /** The moment that is heard on one night, NONE if nothing is. */
         int soleMoment(int night) {
             int age = 0;
             for (int n = from; n < night; n++) {
                 age += growth(n, warmthOn(n));
                 int moment = momentAt(age);
-                // an age never becomes less: what is over stays over
                 if (moment == NONE || isEatenAt(moment)) {
                     return NONE;
                 }
             }
             return night < from ? NONE : momentAt(age + growth(night, warmthOn(night)));
+        }
+
+        /** On how many nights it is heard. */
+        int heardLong() {
+            int age = 0;
+            int many = 0;
+            for (int n = from; n < NIGHTS; n++) {
+                age += growth(n, warmthOn(n));
+                int moment = momentAt(age);
+                if (moment == NONE) {
+                    return many;
+                }
+                many++;
+                if (isEatenAt(moment)) {
+                    return many;
+                }
+            }
+            return many;
         }
 
         /** The first night on which a sound that screams is heard, NONE if there is none; after run(). */
@@ -867,7 +907,7 @@ public final class CheeseEar {
     /** What is heard of all wheels. */
     private static final class Survey {
         private final Cellar cellar;
-        private final int[] hearers = new int[NIGHTS];
+        private final int[] hearers = new int[LETTERS * NIGHTS];
         int screamNight;
         int screamWheel;
         int chordNight;
@@ -891,21 +931,31 @@ public final class CheeseEar {
             }
         }
 
-        void findChord(int letter) {
+        /** On how many wheels each letter is heard, night by night. */
+        void tallyLetters() {
             Arrays.fill(hearers, 0);
             for (int w = 0; w < cellar.wheels.number; w++) {
                 Trial trial = cellar.begin(w);
                 trial.run();
-                for (int night = 0; night < hearers.length; night++) {
-                    hearers[night] += trial.heardOn(night) == letter ? 1 : 0;
+                for (int night = 0; night < NIGHTS; night++) {
+                    int letter = trial.heardOn(night);
+                    int i = letter * NIGHTS + night;
+                    if (letter >= 0 && i < hearers.length) {
+                        hearers[i]++;
+                    }
                 }
             }
+        }
+
+        /** The chord of a letter, by what is tallied. */
+        void findChord(int letter) {
             chordNight = NONE;
             chordNumber = NONE;
-            for (int night = 0; night < hearers.length; night++) {
-                if (hearers[night] > Math.max(chordNumber, 0)) {
+            for (int night = 0; night < NIGHTS; night++) {
+                int many = itemOr(hearers, letter * NIGHTS + night, 0);
+                if (many > Math.max(chordNumber, 0)) {
                     chordNight = night;
-                    chordNumber = hearers[night];
+                    chordNumber = many;
                 }
             }
         }
@@ -936,6 +986,7 @@ public final class CheeseEar {
         private final Cellar cellar;
         private final int[] prices = new int[MOST_WHEELS * NIGHTS];
         private final int[] takings = new int[1 << MOST_WHEELS];
+        private final int[] takingsBefore = new int[1 << MOST_WHEELS];
         int ripeNumber;
         int ripeFirst;
         int ripeSecond;
@@ -955,7 +1006,8 @@ public final class CheeseEar {
             ripeSecond = NONE;
             if (trial.soleMoment(night) == trial.size - 1) {
                 ripeNumber = 0;
-            } else if (!findRipeByOne(trial, night)) {
+            } else if (trial.sort != BLUE && !findRipeByOne(trial, night)) {
+                // a blue wheel heeds no turning
                 findRipeByTwo(trial, night);
             }
         }
@@ -1001,12 +1053,11 @@ public final class CheeseEar {
             for (int night = 0; night < NIGHTS; night++) {
                 int told = trial.warmthOn(night);
                 trial.warmTo(night, 0);
-                trial.run();
+                int many = trial.heardLong();
                 trial.warmTo(night, told);
-                int heard = Integer.bitCount(trial.heardNights);
-                if (heard > coldNumber) {
+                if (many > coldNumber) {
                     coldNight = night;
-                    coldNumber = heard;
+                    coldNumber = many;
                 }
             }
         }
@@ -1027,38 +1078,41 @@ public final class CheeseEar {
 
         int bestSale() {
             int wheels = Math.min(cellar.wheels.number, MOST_WHEELS);
+            Arrays.fill(prices, 0);
             for (int w = 0; w < wheels; w++) {
-                Trial trial = cellar.begin(w);
-                trial.run();
-                for (int night = 0; night < NIGHTS; night++) {
-                    price(w * NIGHTS + night, trial.momentOn(night) + 1);
-                }
+                priceLast(w);
             }
             Arrays.fill(takings, 0);
             for (int night = 0; night < NIGHTS; night++) {
-                sellOn(night, wheels);
+                System.arraycopy(takings, 0, takingsBefore, 0, 1 << MOST_WHEELS);
+                for (int w = 0; w < wheels; w++) {
+                    sell(w, itemOr(prices, w * NIGHTS + night, 0), 1 << wheels);
+                }
             }
             return itemOr(takings, (1 << wheels) - 1, 0);
         }
 
-        private void price(int i, int v) {
-            if (i >= 0 && i < prices.length) {
-                prices[i] = v;
+        /** The last eight nights are the dearest, as moments never become less, and seven other wheels leave one of them free. */
+        private void priceLast(int w) {
+            Trial trial = cellar.begin(w);
+            trial.run();
+            int left = MOST_WHEELS;
+            for (int night = NIGHTS - 1; night >= 0 && left > 0; night--) {
+                int i = w * NIGHTS + night;
+                if (trial.momentOn(night) != NONE && i >= 0 && i < prices.length) {
+                    prices[i] = trial.momentOn(night) + 1;
+                    left--;
+                }
             }
         }
 
-        /** takings: the most that each set of wheels may bring; from the greatest set down, so that a night sells one wheel. */
-        private void sellOn(int night, int wheels) {
-            int sets = Math.min(1 << wheels, takings.length);
-            for (int set = sets - 1; set > 0; set--) {
-                int most = takings[set];
-                for (int w = 0; w < wheels; w++) {
-                    int paid = isOn(set, w) ? itemOr(prices, w * NIGHTS + night, 0) : 0;
-                    if (paid > 0) {
-                        most = Math.max(most, itemOr(takings, set ^ 1 << w, 0) + paid);
-                    }
+        /** takings: the most that each set of wheels has brought; takingsBefore: up to the night ahead. */
+        private void sell(int w, int paid, int sets) {
+            int bit = 1 << w;
+            for (int set = bit; paid > 0 && set < sets && set < takings.length; set++) {
+                if ((set & bit) != 0) {
+                    takings[set] = Math.max(takings[set], takingsBefore[set ^ bit] + paid);
                 }
-                takings[set] = most;
             }
         }
     }
@@ -1116,6 +1170,7 @@ public final class CheeseEar {
             return bits;
         }
 
+        /** The night to listen next, by the nights on which the wheel may have come. */
         int nextNight(int wheel, int comings) {
             tallyAlike(wheel, comings);
             int best = 0;
@@ -1165,7 +1220,8 @@ public final class CheeseEar {
                     if (!cellar.has(w)) {
                         return false;
                     }
-                    Trial trial = cellar.beginWithout(w, without);
+                    Trial trial = cellar.begin(w);
+                    trial.turned = cellar.turnings.nightsOf(w, without);
                     trial.run();
                     if (!fits(trial, w)) {
                         return false;

@@ -178,6 +178,10 @@ public final class PromiseTest {
         due("5 with a fault there are no wheels", x.count(0), 0);
         due("5 with a fault there is no cave", x.count(1), 0);
         due("5 with a fault it is 5 warm", x.warm(0), 5);
+        x.wipe(0);
+        x.wipe(1);
+        due("5 wiped, it is well", x.fault(0), NONE);
+        due("5 a wiped cave is well", x.fault(1), NONE);
         due("5 fault(2)", x.fault(2), BAD);
         due("5 fault(-1)", x.fault(-1), BAD);
     }
@@ -323,6 +327,9 @@ public final class PromiseTest {
         }
         x.sheet(3, 2, 1);
         due("12 one item is no turning", x.read(3), 0);
+        x.sheet(3, 2, 2);
+        due("12 two items are one", x.read(3), 1);
+        due("12 it is undone", x.back(0), 0);
         x.sheet(3, 2, 0);
         due("12 no items", x.read(3), 0);
         due("12 nothing came", x.count(4), 0);
@@ -376,6 +383,12 @@ public final class PromiseTest {
         y.set(0, 1);
         rowDue("13 over at once is not eaten", y, 0, 2, new int[] {2, 2});
         due("13 the last night", y.at(29, 0, 2), 2);
+        CheeseEar slow = ear("b00abcd", "0000");
+        slow.set(0, 1);
+        rowDue("13 TIME 1", slow, 0, 1, new int[] {1, 2, 3, NONE, NONE});
+        CheeseEar still = ear("h02ab", "00000000000000000000000000000009");
+        rowDue("13 no warmth, the first sound", still, 0, 2, new int[] {0, 0, 1, 1, 1, 1, 1, 1, 1, 1});
+        due("13 to the end", still.at(29, 0, 1), 0);
         due("13 at(30, 0, 0)", y.at(30, 0, 0), BAD);
         due("13 at(-1, 0, 0)", y.at(-1, 0, 0), BAD);
         due("13 at(0, 3, 0)", y.at(0, 3, 0), BAD);
@@ -412,6 +425,12 @@ public final class PromiseTest {
         y.set(1, 6);
         due("15 a blue one screams", y.scream(0), 3);
         due("15 not the least wheel but the first night", y.scream(1), 2);
+        Check.typeAll(y, 0, ";h00h");
+        due("15 a fourth", y.scream(1), 3);
+        for (int i = 0; i < 5; i++) {
+            y.undo(0);
+        }
+        due("15 a wheel that was typed is none", y.scream(1), 2);
         due("15 scream(2)", y.scream(2), BAD);
         due("15 scream(-1)", y.scream(-1), BAD);
     }
@@ -425,6 +444,15 @@ public final class PromiseTest {
         due("16 b of one", x.chord(1, 1), 1);
         due("16 h never", x.chord(7, 0), NONE);
         due("16 h of none", x.chord(7, 1), NONE);
+        CheeseEar y = ear("b00h;b19b;b19ac;h03a", "");
+        due("16 h on night 0", y.chord(7, 0), 0);
+        due("16 h of one", y.chord(7, 1), 1);
+        due("16 g next to it never", y.chord(6, 0), NONE);
+        due("16 a on the first of like nights", y.chord(0, 0), 3);
+        for (int i = 0; i < 5; i++) {
+            y.undo(0);
+        }
+        due("16 a wheel that was typed is none", y.chord(0, 0), 19);
         due("16 chord(8, 0)", x.chord(8, 0), BAD);
         due("16 chord(-1, 0)", x.chord(-1, 0), BAD);
         due("16 chord(0, 2)", x.chord(0, 2), BAD);
@@ -438,6 +466,12 @@ public final class PromiseTest {
         due("17 nights 0 and 1 are heard", x.hush(), ALL - 3);
         CheeseEar y = ear("s03a;b19a", "");
         due("17 one night each", y.hush(), ALL - (1 << 3) - (1 << 19));
+        Check.typeAll(y, 0, ";h00a");
+        due("17 a third", y.hush(), ALL - 15 - (1 << 19));
+        for (int i = 0; i < 5; i++) {
+            y.undo(0);
+        }
+        due("17 a wheel that was typed is none", y.hush(), ALL - (1 << 3) - (1 << 19));
         y.set(0, 20);
         due("17 to the end of each", y.hush(), ALL - (1 << 3) - (1 << 4) - (1 << 19) - (1 << 20) - (1 << 21));
     }
@@ -486,6 +520,12 @@ public final class PromiseTest {
         ripeDue("eaten first", z, 0, 1, NONE, NONE, NONE);
         z.set(1, 8);
         ripeDue("not eaten", z, 0, 1, 0, NONE, NONE);
+        // in a cave that is warm on nights 1 and 2 alone a soft wheel must be turned just then
+        ripeDue("on the very night", ear("s00a", "009"), 0, 2, 1, 2, NONE);
+        ripeDue("on the very night and the one ahead", ear("s00a", "099"), 0, 2, 2, 1, 2);
+        ripeDue("ahead of its night, of one sound", ear("s05a", ""), 0, 4, NONE, NONE, NONE);
+        ripeDue("on its night, of one sound", ear("s05a", ""), 0, 5, 0, NONE, NONE);
+        ripeDue("on the last night", ear("h19a", "00000000000000000000000000000"), 0, 29, 0, NONE, NONE);
         CheeseEar one = ear("s00aaa", "");
         ripeDue("the last sound, not only its letter", one, 0, 0, NONE, NONE, NONE);
         due("18 ripe(1, 0, -1)", one.ripe(1, 0, -1), BAD);
@@ -508,6 +548,14 @@ public final class PromiseTest {
         due("19 on how many there", x.cold(2, 1), 4);
         due("19 the cave stays", x.warm(2), 7);
         due("19 longs stay", x.longs(0), 11);
+        due("19 night 0", ear("b00a;b01a", "95").cold(0, 0), 0);
+        due("19 two nights by it", ear("b00a;b01a", "95").cold(0, 1), 2);
+        due("19 night 29", ear("b19a", "00000000000000000000000000000").cold(0, 0), 0);
+        CheeseEar late = ear("b19abcd", "000000000000000000000000000009");
+        late.set(0, 4);
+        // 1 to 10 by night 28, and 20 on night 29: over but for the cold then
+        due("19 the last night is better", late.cold(0, 0), 29);
+        due("19 on eleven", late.cold(0, 1), 11);
         x.set(0, 20);
         due("19 no night is better", x.cold(0, 0), 0);
         due("19 on all", x.cold(0, 1), 29);
@@ -926,6 +974,13 @@ public final class PromiseTest {
         }
         x.set(1, 8);
         due("35 none is eaten", x.count(6), 0);
+        x.set(1, 7);
+        Check.typeAll(x, 0, ";h00h");
+        due("35 three are eaten", x.count(6), 3);
+        for (int i = 0; i < 5; i++) {
+            x.undo(0);
+        }
+        due("35 a wheel that was typed is none", x.count(6), 2);
         x.type(0, 120);
         x.type(1, 120);
         int[] faulty = {0, 0, 18, 4, 2, 1, 0, 3, 1};
