@@ -556,6 +556,10 @@ public final class PromiseTest {
         // 1 to 10 by night 28, and 20 on night 29: over but for the cold then
         due("19 the last night is better", late.cold(0, 0), 29);
         due("19 on eleven", late.cold(0, 1), 11);
+        CheeseEar over = ear("b03a", "");
+        over.set(0, 1);
+        due("19 heard on no night: the least", over.cold(0, 0), 0);
+        due("19 heard on no night: 0", over.cold(0, 1), 0);
         x.set(0, 20);
         due("19 no night is better", x.cold(0, 0), 0);
         due("19 on all", x.cold(0, 1), 29);
@@ -576,6 +580,14 @@ public final class PromiseTest {
         due("20 the least of like ones", y.come(0, 0), 16);
         due("20 the greatest moment", y.come(0, 1), 4);
         due("20 its own night stays", y.wheel(0, 1), 1);
+        CheeseEar blue = ear("b00abcde", "");
+        blue.set(0, 13);
+        // 66 from night 19, over by 1; 60 from night 20, on which none comes
+        due("20 not from night 20", blue.come(0, 0), NONE);
+        CheeseEar cold = ear("b05abcde", "000000000000000000000000000000");
+        cold.set(0, 20);
+        due("20 from night 0", cold.come(0, 0), 0);
+        due("20 with moment 1", cold.come(0, 1), 1);
         CheeseEar z = ear("h00ha", "");
         z.set(0, 20);
         due("20 it may not be gone by then", z.come(0, 0), NONE);
@@ -593,6 +605,14 @@ public final class PromiseTest {
         due("21 two on two nights", ear("h00ab;h00ab", cave).sale(), 4);
         due("21 three", ear("h00ab;h00ab;h00ab", cave).sale(), 5);
         due("21 no fourth night", ear("h00ab;h00ab;h00ab;h00ab", cave).sale(), 5);
+        CheeseEar eight = ear("h00ab;h00ab;h00ab;h00ab;h00ab;h00ab;h00ab;h00ab", "");
+        eight.set(0, 20);
+        // each is heard as b on nights 9 to 18
+        due("21 eight alike", eight.sale(), 16);
+        CheeseEar late = ear("b19ab", "000000000000000000000000000000");
+        late.set(0, 11);
+        due("21 the last night", late.sale(), 2);
+        due("21 of fewer than eight", ear("b19ab;b19ab", "0000000000000000000000000000").sale(), 4);
         CheeseEar x = ear("s00h;s00ah;s00aah", "");
         // each is heard first on night 0; the second screams on night 1, the third (7, 14, 21) on night 2
         due("21 on the night on which it is eaten", x.sale(), 1 + 2 + 3);
@@ -682,6 +702,14 @@ public final class PromiseTest {
         y.listen(19, 0, 8);
         // by 2 each night and 21: heard for ten nights, so not from 10 on
         due("25 nothing heard", y.was(0, 0), (1 << 10) - 1);
+        CheeseEar z = ear("h00ab;h00ab", "");
+        z.turning(0, 0);
+        z.listen(1, 0, 1);
+        due("25 the turnings of the others are as told: nights", z.was(1, 0), (1 << 20) - 1);
+        due("25 the turnings of the others are as told: sorts", z.was(1, 1), 7);
+        z.back(0);
+        due("25 without that turning: nights", z.was(1, 0), 0);
+        due("25 without that turning: sorts", z.was(1, 1), 0);
         due("25 its own night stays", y.wheel(0, 1), 0);
         due("25 its own sort stays", y.wheel(0, 0), 0);
         due("25 was(1, 0)", y.was(1, 0), BAD);
@@ -740,6 +768,10 @@ public final class PromiseTest {
         y.turning(1, 0);
         // frost: 2, then 0 more; as told 9, which screams
         frostDue("with a knock and a turning", y, new int[] {3, 9, 0, 1}, 3, 16);
+        CheeseEar old = ear("b00abcde", "");
+        old.set(0, 20);
+        frostDue("at a great age", old, new int[] {0, 9, 0, 15}, 1, 1);
+        frostDue("over but for one frost", old, new int[] {8, 0, 0, 16}, 1, 2);
         due("27 c 17", x.frost(17, 0, 0, 0, 0), Check.BAD_LONG);
         due("27 c -1", x.frost(-1, 0, 0, 0, 0), Check.BAD_LONG);
         due("27 last 10", x.frost(0, 10, 0, 0, 0), Check.BAD_LONG);
@@ -786,6 +818,8 @@ public final class PromiseTest {
         }
         due("28 the cave stays", x.warm(0), 0);
         due("28 lots of seed 1", Long.parseLong(lots(1, 5)), 86339L);
+        CheeseEar one = ear("h03ab", "00000");
+        due("28 one wheel alone", one.summer(5, 0, 0), 7);
         due("28 n 31", x.summer(1, 31, 0), BAD);
         due("28 n -1", x.summer(1, -1, 0), BAD);
         due("28 what 2", x.summer(1, 0, 2), BAD);
@@ -925,6 +959,12 @@ public final class PromiseTest {
         copyDue("t is lost", x, new int[] {0, 0, 3, 0, 1}, Check.NULL);
         copyDue("NULL comes ahead of INDEX", x, new int[] {0, -1, 3, 0, 1}, Check.NULL);
         due("33 count 8", x.count(8), 1);
+        x.sheet(3, 2, 60);
+        x.put(3, 2, 0, 8);
+        copyDue("among sixty items", x, new int[] {3, 0, 3, 59, 1}, 1);
+        due("33 the sixtieth", x.get(3, 2, 59), 8);
+        copyDue("all sixty", x, new int[] {3, 0, 3, 0, 60}, 1);
+        copyDue("a sixty-first", x, new int[] {3, 0, 3, 0, 61}, Check.INDEX);
         copyDue("s is 4", x, new int[] {4, 0, 0, 0, 1}, BAD);
         copyDue("t is 4", x, new int[] {3, 0, 4, 0, 1}, BAD);
         copyDue("s is -1", x, new int[] {-1, 0, 0, 0, 1}, BAD);
