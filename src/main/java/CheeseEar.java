@@ -1108,8 +1108,11 @@ public final class CheeseEar {
 
         /** takings: the most that each set of wheels has brought; takingsBefore: up to the night ahead. */
         private void sell(int w, int paid, int sets) {
+            if (paid <= 0) {
+                return;
+            }
             int bit = 1 << w;
-            for (int set = bit; paid > 0 && set < sets && set < takings.length; set++) {
+            for (int set = bit; set < sets && set < takings.length; set++) {
                 if ((set & bit) != 0) {
                     takings[set] = Math.max(takings[set], takingsBefore[set ^ bit] + paid);
                 }
@@ -1248,7 +1251,7 @@ public final class CheeseEar {
     /** Cold by chance, and other summers. */
     private static final class Chances {
         private final Cellar cellar;
-        // an age at which a wheel is not over is less than this, and never more than 60 bits are weighed
+        // by age: one at which a wheel is not over is less than this; all weights together are 16 to the 10th at most
         private final long[] weights = new long[MOST_TIME * MOST_SOUNDS];
         private final long[] nextWeights = new long[MOST_TIME * MOST_SOUNDS];
         long above;
