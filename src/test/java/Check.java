@@ -7,6 +7,7 @@ final class Check {
 
     private static int right = 0;
     private static int wrong = 0;
+    private static String heading = "";
 
     private Check() {
     }
@@ -17,7 +18,7 @@ final class Check {
         } else {
             wrong++;
             if (wrong <= 50) {
-                System.out.println(call + " answered " + got + ", due is " + want);
+                System.out.println(heading + call + " answered " + got + ", due is " + want);
             }
         }
     }
@@ -26,8 +27,17 @@ final class Check {
         due(what, it ? 1 : 0, 1);
     }
 
+    /** What is told ahead of each answer that is not as due, from here on. */
+    static void under(String told) {
+        heading = told;
+    }
+
     static int wrongSoFar() {
         return wrong;
+    }
+
+    static int soFar() {
+        return right + wrong;
     }
 
     static void close(String name) {
