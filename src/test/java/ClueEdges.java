@@ -217,7 +217,10 @@ final class ClueEdges {
         Edge.due(Edge.ear("s00a", "9999999999999999999"), "ask(0)", 19);
         // heard to the end from any night: on night 9 ten have come and ten have not
         for (char letter = 'a'; letter <= 'h'; letter++) {
-            Edge.due(Edge.ear("h00" + letter, Edge.NO_WARMTH, "set(1, 8)"), "ask(0)", 9);
+            CheeseEar x = Edge.ear("h00" + letter, Edge.NO_WARMTH, "set(1, 8)");
+            Edge.due(x, "ask(0)", 9);
+            // and of nineteen nine have come on night 8, ten on night 9: the least
+            Edge.due(Edge.after(x, "listen(18, 0, " + (letter - 'a') + ")"), "ask(0)", 8);
         }
         // alike by the letter, though not by the sound: from 16 to 19 a is a
         CheeseEar same = Edge.ear("s00aaaaa", "", "set(0, 7)", "listen(19, 0, 0)");
